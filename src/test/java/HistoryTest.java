@@ -1,0 +1,190 @@
+/** Promises 10 to 12: undo, and the snapshot. */
+public final class HistoryTest {
+    private static final Checks CHECKS = new Checks();
+
+    public static void main(String[] args) {
+        undoGoesBack();
+        undoKeepsFour();
+        undoRestoresAll();
+        undoOfEachAct();
+        onlyActsAreRecorded();
+        keepTakesTheState();
+        restoreGivesTheState();
+        CHECKS.end("HistoryTest");
+    }
+
+    private static void due(String call, long got, long want) {
+        CHECKS.due(call, got, want);
+    }
+
+    private static void undoGoesBack() {
+        CHECKS.of("promise 10");
+        JoinGrants pool = new JoinGrants();
+        due("undo()", pool.undo(), JoinGrants.NONE);
+        pool.ask(0, 1, 1);
+        pool.ask(0, 2, 2);
+        due("undo()", pool.undo(), 1);
+        due("count(0)", pool.count(0), 1);
+        due("join(1, 0)", pool.join(1, 0), JoinGrants.UNKNOWN);
+        due("undo()", pool.undo(), 0);
+        due("count(0)", pool.count(0), 0);
+        due("undo()", pool.undo(), JoinGrants.NONE);
+        due("ask(1, 3, 3), the number is free again", pool.ask(1, 3, 3), 0);
+        CHECKS.dueOfJoin(pool, 0, 1, 3, 3, 1, 3, 5, 5, 6, 0, 0, 0, 0);
+    }
+
+    private static void undoKeepsFour() {
+        JoinGrants pool = new JoinGrants();
+        for (int i = 1; i <= 7; i++) {
+            pool.set(3, i);
+            due("count(16)", pool.count(16), Math.min(i, 4));
+        }
+        for (int i = 6; i >= 3; i--) {
+            due("undo()", pool.undo(), i - 3);
+            due("count(15)", pool.count(15), i);
+        }
+        due("undo()", pool.undo(), JoinGrants.NONE);
+        due("count(15)", pool.count(15), 3);
+        pool.set(3, 30);
+        pool.set(3, 31);
+        due("undo()", pool.undo(), 1);
+        due("count(15)", pool.count(15), 30);
+    }
+
+    private static void undoRestoresAll() {
+        JoinGrants pool = new JoinGrants();
+        pool.set(2, 1);
+        pool.ask(0, 40, 96);
+        pool.ask(1, 5, 9);
+        pool.step(1);
+        pool.ask(2, 30, 30);
+        int[] joins = tellAll(pool);
+        pool.set(0, 20);
+        pool.undo();
+        compare("set", joins, pool);
+        pool.step(300);
+        pool.undo();
+        compare("step", joins, pool);
+        pool.ask(0, 200, 200);
+        pool.undo();
+        compare("ask", joins, pool);
+        pool.cancel(0);
+        pool.undo();
+        compare("cancel", joins, pool);
+    }
+
+    /** All that is told of a state, but for what stands in the history. */
+    private static int[] tellAll(JoinGrants pool) {
+        int[] told = new int[16 * 13 + 16];
+        int i = 0;
+        for (int join = 0; join < 16; join++) {
+            for (int what = 0; what < 12; what++) {
+                told[i++] = pool.join(join, what);
+            }
+            told[i++] = pool.doneIn(join);
+        }
+        for (int what = 0; what < 16; what++) {
+            told[i++] = pool.count(what);
+        }
+        return told;
+    }
+
+    private static void compare(String act, int[] before, JoinGrants pool) {
+        int[] now = tellAll(pool);
+        for (int i = 0; i < before.length; i++) {
+            due("number " + i + " after undo of " + act, now[i], before[i]);
+        }
+    }
+
+    private static void undoOfEachAct() {
+        JoinGrants pool = new JoinGrants();
+        pool.ask(0, 1, 98);
+        pool.ask(1, 5, 5);
+        pool.change(1, 2);
+        due("undo()", pool.undo(), 2);
+        due("join(1, 0)", pool.join(1, 0), 1);
+        due("join(1, 4)", pool.join(1, 4), 4);
+        due("join(1, 5)", pool.join(1, 5), 8);
+        pool.keep();
+        pool.step(7);
+        pool.restore();
+        due("count(16)", pool.count(16), 4);
+        due("undo()", pool.undo(), 3);
+        due("count(8)", pool.count(8), 7);
+        due("undo() is no act", pool.undo(), 2);
+        due("count(8)", pool.count(8), 0);
+    }
+
+    private static void onlyActsAreRecorded() {
+        JoinGrants pool = new JoinGrants();
+        pool.ask(0, 1, 98);
+        pool.ask(0, 1, 1);
+        due("count(16)", pool.count(16), 2);
+        pool.ask(3, 1, 1);
+        pool.askAll();
+        pool.cancel(5);
+        pool.change(0, 1);
+        pool.change(1, 0);
+        pool.change(1, 3);
+        pool.step(0);
+        pool.set(0, 100);
+        pool.set(0, 1);
+        pool.type('x');
+        pool.clearText();
+        pool.keep();
+        pool.join(0, 0);
+        pool.why(1);
+        pool.queue(0);
+        pool.work(0, 1, 1, 3);
+        pool.bestWay(1, 1, 3);
+        pool.doneIn(1);
+        pool.count(0);
+        pool.spare();
+        due("count(16)", pool.count(16), 2);
+        due("count(8)", pool.count(8), 0);
+    }
+
+    private static void keepTakesTheState() {
+        CHECKS.of("promise 11");
+        JoinGrants pool = new JoinGrants();
+        due("keep()", pool.keep(), 0);
+        pool.step(12);
+        due("keep()", pool.keep(), 12);
+        pool.ask(0, 1, 1);
+        pool.step(5);
+        due("keep()", pool.keep(), 17);
+        due("it is no act", pool.count(16), 3);
+        pool.step(1);
+        pool.undo();
+        pool.undo();
+        pool.undo();
+        due("restore(), the latest one", pool.restore(), 17);
+        due("count(0)", pool.count(0), 1);
+        due("join(0, 3)", pool.join(0, 3), 2);
+        due("join(0, 9)", pool.join(0, 9), 1);
+    }
+
+    private static void restoreGivesTheState() {
+        CHECKS.of("promise 12");
+        JoinGrants pool = new JoinGrants();
+        due("restore()", pool.restore(), JoinGrants.NONE);
+        due("count(16)", pool.count(16), 0);
+        pool.ask(1, 60, 80);
+        pool.step(2);
+        pool.keep();
+        int[] before = tellAll(pool);
+        pool.step(30);
+        pool.ask(0, 3, 3);
+        pool.set(0, 30);
+        due("restore()", pool.restore(), 2);
+        compare("restore", before, pool);
+        due("count(16)", pool.count(16), 4);
+        pool.cancel(0);
+        due("restore(), the snapshot stays", pool.restore(), 2);
+        compare("restore again", before, pool);
+        due("undo()", pool.undo(), 3);
+        due("join(0, 3)", pool.join(0, 3), 3);
+        pool.undo();
+        due("undo() leaves the snapshot", pool.restore(), 2);
+    }
+}
