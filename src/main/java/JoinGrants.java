@@ -101,14 +101,12 @@ public final class JoinGrants {
             return BAD_VALUE;
         }
         history.record(pool);
-        int done = 0;
+        int doneBefore = pool.joinsIn(Join.DONE);
         int passed = 0;
         while (passed < steps) {
-            int leap = pool.stepsToNextEnd(steps - passed);
-            done += pool.pass(leap);
-            passed += leap;
+            passed += Math.max(1, pool.leap(steps - passed));
         }
-        return done;
+        return pool.joinsIn(Join.DONE) - doneBefore;
     }
 
     /** Sets a setting; returns the previous one. */
@@ -203,9 +201,11 @@ public final class JoinGrants {
         if (!Plan.fits(Plan.LOOPS, left, right) || !isPages(pages)) {
             return BAD_VALUE;
         }
+        // Loops are always possible.
+        trialPlan.make(Plan.LOOPS, left, right);
         int best = Plan.LOOPS;
-        int least = Integer.MAX_VALUE;
-        for (int way = Plan.LOOPS; way <= Plan.MERGING; way++) {
+        int least = trialPlan.workWith(pages);
+        for (int way = Plan.BUCKETS; way <= Plan.MERGING; way++) {
             trialPlan.make(way, left, right);
             if (pages >= trialPlan.need && trialPlan.workWith(pages) < least) {
                 best = way;
@@ -227,9 +227,7 @@ public final class JoinGrants {
         }
         int passed = 0;
         while (!tried.isIn(Join.DONE) && passed < LONGEST_WAIT) {
-            int leap = trialPool.stepsToNextEnd(LONGEST_WAIT - passed);
-            trialPool.pass(leap);
-            passed += leap;
+            passed += Math.max(1, trialPool.leap(LONGEST_WAIT - passed));
         }
         return tried.isIn(Join.DONE) ? passed : NONE;
     }
@@ -379,13 +377,9 @@ public final class JoinGrants {
             this.number = number;
         }
 
-        /** Begins to wait, whatever stood at this place before an undo. */
         void come(int way, int left, int right) {
             plan.make(way, left, right);
-            end(WAITING);
-            stepsWaited = 0;
-            stepsWorked = 0;
-            givenBack = 0;
+            state = WAITING;
         }
 
         void changeWay(int newWay) {
@@ -432,7 +426,7 @@ public final class JoinGrants {
 
         /** In how many steps it has no work left, if it keeps its pages. */
         int stepsLeft(int speed) {
-            return speed < 1 ? 0 : (workLeft + speed - 1) / speed;
+            return speed < 1 ? 1 : (workLeft + speed - 1) / speed;
         }
 
         boolean hasWorkedAll() {
@@ -615,13 +609,16 @@ public final class JoinGrants {
         }
 
         private boolean canAskBack(int lacking) {
-            return settings[ASKING_BACK] == 1 && granted() <= settings[PAGES] && surplus() >= lacking;
+            return setting(ASKING_BACK) == 1 && granted() <= setting(PAGES) && surplus() >= lacking;
         }
 
         private void askBack(int lacking) {
             int open = lacking;
             for (int i = 0; i < joins.length && open > 0; i++) {
                 Join giver = richest();
+                if (giver == null) {
+                    return;
+                }
                 int given = Math.min(open, giver.surplus());
                 giver.giveBack(given);
                 askedBack += given;
@@ -631,9 +628,9 @@ public final class JoinGrants {
 
         /** The join that has the most more than it needs, of several the first. */
         private Join richest() {
-            Join best = joins[0];
+            Join best = null;
             for (Join each : joins) {
-                if (each.surplus() > best.surplus()) {
+                if (best == null || each.surplus() > best.surplus()) {
                     best = each;
                 }
             }
@@ -643,7 +640,7 @@ public final class JoinGrants {
         private boolean isAhead(Join one, Join other) {
             int need = one.need();
             int otherNeed = other.need();
-            if (settings[ORDER] == 1 && need != otherNeed) {
+            if (setting(ORDER) == 1 && need != otherNeed) {
                 return need < otherNeed;
             }
             return one.number() < other.number();
@@ -675,41 +672,37 @@ public final class JoinGrants {
             if (!one.isIn(Join.WAITING)) {
                 return 0;
             }
-            if (one.need() > settings[PAGES]) {
+            if (one.need() > setting(PAGES)) {
                 return 1;
             }
             return rankOf(one) > 0 ? 2 : 3;
         }
 
-        /** In how many steps the next join is done, at least 1 and at most as told. */
-        int stepsToNextEnd(int most) {
-            int next = most;
+        /**
+         * Lets steps pass until the next join is done, but at most so many; returns how many.
+         * They pass in one go, as nothing else happens in them.
+         */
+        int leap(int most) {
+            int speed = setting(SPEED);
+            int passed = most;
             for (Join each : joins) {
                 if (each.isIn(Join.AT_WORK)) {
-                    next = Math.min(next, each.stepsLeft(settings[SPEED]));
+                    passed = Math.min(passed, each.stepsLeft(speed));
                 }
             }
-            return Math.max(1, next);
-        }
-
-        /**
-         * Lets steps pass; returns how many joins are done. They pass in one go, which is right
-         * as long as no join is done before the last of them.
-         */
-        int pass(int number) {
-            int done = 0;
+            boolean anyDone = false;
             for (Join each : joins) {
-                workDone += each.pass(number, settings[SPEED]);
+                workDone += each.pass(passed, speed);
                 if (each.hasWorkedAll()) {
                     each.end(Join.DONE);
-                    done++;
+                    anyDone = true;
                 }
             }
-            steps += number;
-            if (done > 0) {
+            steps += passed;
+            if (anyDone) {
                 goThroughQueue();
             }
-            return done;
+            return passed;
         }
 
         int steps() {
@@ -725,7 +718,7 @@ public final class JoinGrants {
         }
 
         private int free() {
-            return Math.max(0, settings[PAGES] - granted());
+            return Math.max(0, setting(PAGES) - granted());
         }
 
         int surplus() {
@@ -744,7 +737,7 @@ public final class JoinGrants {
             return sum;
         }
 
-        private int joinsIn(int state) {
+        int joinsIn(int state) {
             int sum = 0;
             for (Join each : joins) {
                 sum += each.isIn(state) ? 1 : 0;
@@ -785,7 +778,9 @@ public final class JoinGrants {
         }
 
         void copyFrom(Pool other) {
-            System.arraycopy(other.settings, 0, settings, 0, settings.length);
+            for (int i = 0; i < settings.length && i < other.settings.length; i++) {
+                settings[i] = other.settings[i];
+            }
             for (int i = 0; i < joins.length && i < other.joins.length; i++) {
                 joins[i].copyFrom(other.joins[i]);
             }
@@ -847,8 +842,8 @@ public final class JoinGrants {
     private static final class JoinText {
         static final int NO_FAULT = -1;
         private static final int MOST_CHARACTERS = 60;
-        // The shortest join with its comma, as l1x1, is five characters.
-        private static final int MOST_JOINS = (MOST_CHARACTERS + 1) / 5;
+        // The shortest join takes five characters with its comma, and the last one has none.
+        private static final int MOST_JOINS = 12;
         private static final int GREATEST_NUMBER = 200;
         private static final int AT_WAY = 0;
         private static final int AT_LEFT = 1;

@@ -53,6 +53,11 @@ public final class HistoryTest {
 
     private static void undoRestoresAll() {
         JoinGrants pool = new JoinGrants();
+        pool.ask(0, 1, 1);
+        pool.ask(0, 1, 50);
+        pool.undo();
+        due("the most granted before", pool.count(7), 3);
+        pool = new JoinGrants();
         pool.set(2, 1);
         pool.ask(0, 40, 96);
         pool.ask(1, 5, 9);

@@ -10,6 +10,7 @@ public final class JoinsTest {
         askAsksBack();
         askAsksBackFromSeveral();
         askBackMakesAFullPoolOfLeast();
+        askBackRoundsUp();
         askAllTakesTheText();
         askAllIsAllOrNone();
         cancelEnds();
@@ -18,6 +19,7 @@ public final class JoinsTest {
         stepStartsOnceAStep();
         stepSpeeds();
         setSettings();
+        setStartsAll();
         setOrder();
         setSmallerPool();
         CHECKS.end("JoinsTest");
@@ -154,6 +156,21 @@ public final class JoinsTest {
         due("spare()", pool.spare(), 0);
         pool.ask(0, 1, 1);
         due("why(3)", pool.why(3), 3);
+    }
+
+    private static void askBackRoundsUp() {
+        JoinGrants pool = new JoinGrants();
+        pool.set(0, 20);
+        pool.set(2, 1);
+        pool.set(3, 1);
+        pool.ask(0, 6, 5);
+        pool.ask(2, 50, 50);
+        pool.step(3);
+        due("join(0, 7)", pool.join(0, 7), 13);
+        pool.ask(0, 1, 1);
+        // 13 * 21 / 16 is 17 and a sixteenth
+        CHECKS.dueOfJoin(pool, 0, 0, 6, 5, 1, 3, 7, 4, 18 + 3, 0, 3, 3, 0);
+        due("join(1, 10)", pool.join(1, 10), 0);
     }
 
     private static void typeAll(JoinGrants pool, String text) {
@@ -367,6 +384,19 @@ public final class JoinsTest {
         pool.set(2, 1);
         due("join(2, 6), asked back", pool.join(2, 6), 3);
         due("join(0, 10)", pool.join(0, 10), 3);
+    }
+
+    private static void setStartsAll() {
+        JoinGrants pool = new JoinGrants();
+        pool.set(0, 20);
+        pool.ask(2, 200, 200);
+        for (int i = 1; i < 16; i++) {
+            pool.ask(0, 1, 1);
+        }
+        due("all wait behind the first", pool.count(1), 16);
+        pool.set(0, 500);
+        due("all start at once", pool.count(2), 16);
+        due("count(5)", pool.count(5), 203 + 15 * 3);
     }
 
     private static void setOrder() {
