@@ -18,6 +18,14 @@ final class Checks {
         System.out.println(promise + ": " + call + " answered " + got + ", due is " + want);
     }
 
+    /** Checks each of many numbers. */
+    void dueAll(String call, int[] got, int[] want) {
+        due("how much is told after " + call, got.length, want.length);
+        for (int i = 0; i < got.length && i < want.length; i++) {
+            due("number " + i + " after " + call, got[i], want[i]);
+        }
+    }
+
     /** Checks what join(join, 0..11) tells. */
     void dueOfJoin(JoinGrants pool, int join, int... wants) {
         for (int what = 0; what < wants.length; what++) {

@@ -1,3 +1,5 @@
+import java.util.function.Consumer;
+
 /** Promises 10 to 12: undo, and the snapshot. */
 public final class HistoryTest {
     private static final Checks CHECKS = new Checks();
@@ -57,48 +59,34 @@ public final class HistoryTest {
         pool.ask(0, 1, 50);
         pool.undo();
         due("the most granted before", pool.count(7), 3);
-        pool = new JoinGrants();
+        undoRestores("set", one -> one.set(0, 20));
+        undoRestores("step", one -> one.step(300));
+        undoRestores("ask", one -> one.ask(0, 200, 200));
+        undoRestores("cancel", one -> one.cancel(0));
+    }
+
+    private static JoinGrants atWork() {
+        JoinGrants pool = new JoinGrants();
         pool.set(2, 1);
         pool.ask(0, 40, 96);
         pool.ask(1, 5, 9);
         pool.step(1);
         pool.ask(2, 30, 30);
-        int[] joins = tellAll(pool);
-        pool.set(0, 20);
-        pool.undo();
-        compare("set", joins, pool);
-        pool.step(300);
-        pool.undo();
-        compare("step", joins, pool);
-        pool.ask(0, 200, 200);
-        pool.undo();
-        compare("ask", joins, pool);
-        pool.cancel(0);
-        pool.undo();
-        compare("cancel", joins, pool);
+        return pool;
     }
 
-    /** All that is told of a state, but for what stands in the history. */
-    private static int[] tellAll(JoinGrants pool) {
-        int[] told = new int[16 * 13 + 16];
-        int i = 0;
-        for (int join = 0; join < 16; join++) {
-            for (int what = 0; what < 12; what++) {
-                told[i++] = pool.join(join, what);
-            }
-            told[i++] = pool.doneIn(join);
-        }
-        for (int what = 0; what < 16; what++) {
-            told[i++] = pool.count(what);
-        }
-        return told;
+    private static void undoRestores(String act, Consumer<JoinGrants> one) {
+        JoinGrants pool = atWork();
+        one.accept(pool);
+        pool.undo();
+        compare("undo of " + act, Told.all(atWork()), pool);
     }
 
-    private static void compare(String act, int[] before, JoinGrants pool) {
-        int[] now = tellAll(pool);
-        for (int i = 0; i < before.length; i++) {
-            due("number " + i + " after undo of " + act, now[i], before[i]);
-        }
+    /** Compares all that is told of a state, but for the number of those in the history. */
+    private static void compare(String call, int[] before, JoinGrants pool) {
+        int[] now = Told.all(pool);
+        now[Told.COUNTS + 16] = before[Told.COUNTS + 16];
+        CHECKS.dueAll(call, now, before);
     }
 
     private static void undoOfEachAct() {
@@ -177,7 +165,7 @@ public final class HistoryTest {
         pool.ask(1, 60, 80);
         pool.step(2);
         pool.keep();
-        int[] before = tellAll(pool);
+        int[] before = Told.all(pool);
         pool.step(30);
         pool.ask(0, 3, 3);
         pool.set(0, 30);
