@@ -31,6 +31,7 @@ public final class PoolEdgesTest {
         asksForWhatLacks();
         workLeftIsRoundedUp();
         queueOfEqualNeeds();
+        allStartAtOnce();
         thoseBehindWaitToo();
         eachEventGoesThroughTheQueue();
         smallerPoolKeepsGrants();
@@ -456,7 +457,8 @@ public final class PoolEdgesTest {
 
     private static void workLeftIsRoundedUp() {
         CHECKS.of("\"rounded up, and the pages given back more\"");
-        int[][] rows = {{0, 16, 21}, {1, 15, 20}, {2, 14, 19}, {8, 8, 11}, {15, 1, 2}};
+        // The remainders are 0, 11, 6, 1, 8, 15 and 5.
+        int[][] rows = {{0, 16, 21}, {1, 15, 20}, {2, 14, 19}, {3, 13, 18}, {8, 8, 11}, {13, 3, 4}, {15, 1, 2}};
         for (int[] row : rows) {
             JoinGrants pool = new JoinGrants();
             pool.set(0, 20);
@@ -492,6 +494,25 @@ public final class PoolEdgesTest {
         for (int rank = 0; rank < ranks.length; rank++) {
             due("queue(" + rank + ")", pool.queue(rank), rank + 1);
         }
+    }
+
+    private static void allStartAtOnce() {
+        CHECKS.of("\"each one is started\"");
+        JoinGrants pool = new JoinGrants();
+        pool.set(0, 20);
+        pool.ask(2, 200, 200);
+        for (int i = 1; i < 16; i++) {
+            pool.ask(0, 1, 1);
+        }
+        due("those that wait, 22 needed of 20", pool.count(1), 16);
+        due("set(0, 500)", pool.set(0, 500), 20);
+        CHECKS.dueCounts(pool, 1, 0, 16, 0, 0, 203 + 15 * 3);
+        due("undo()", pool.undo(), 3);
+        due("set(0, 247), a page lacks for the last", pool.set(0, 247), 20);
+        CHECKS.dueCounts(pool, 1, 1, 15, 0, 0, 203 + 14 * 3, 2);
+        due("queue(0)", pool.queue(0), 15);
+        due("set(0, 248)", pool.set(0, 248), 247);
+        CHECKS.dueCounts(pool, 1, 0, 16, 0, 0, 203 + 15 * 3, 0);
     }
 
     private static void thoseBehindWaitToo() {
