@@ -513,6 +513,14 @@ public final class PoolEdgesTest {
         due("queue(0)", pool.queue(0), 15);
         due("set(0, 248)", pool.set(0, 248), 247);
         CHECKS.dueCounts(pool, 1, 0, 16, 0, 0, 203 + 15 * 3, 0);
+        pool = withFree(0);
+        for (int i = 1; i < 16; i++) {
+            pool.ask(0, 1, 1);
+        }
+        due("those that wait", pool.count(1), 15);
+        due("set(2, 1), all by pages that are asked back", pool.set(2, 1), 0);
+        CHECKS.dueCounts(pool, 1, 0, 16, 0, 0, 100, 0);
+        due("join(0, 10)", pool.join(0, 10), 15 * 3);
     }
 
     private static void thoseBehindWaitToo() {
