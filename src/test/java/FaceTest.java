@@ -1,10 +1,15 @@
+import java.io.IOException;
 import java.lang.reflect.Constructor;
 import java.lang.reflect.Field;
 import java.lang.reflect.Method;
 import java.lang.reflect.Modifier;
+import java.nio.file.Files;
+import java.nio.file.Path;
 import java.util.Arrays;
 import java.util.Set;
 import java.util.TreeSet;
+import java.util.regex.Matcher;
+import java.util.regex.Pattern;
 
 /** The public face is the one of the document, and nothing else of the class is seen outside. */
 public final class FaceTest {
@@ -15,9 +20,12 @@ public final class FaceTest {
             "bestWay(int,int,int)", "doneIn(int)", "count(int)", "spare()"));
     private static final Set<String> CONSTANTS = new TreeSet<>(Arrays.asList(
             "UNKNOWN", "BAD_VALUE", "FULL", "NOT_POSSIBLE", "NONE"));
+    private static final String SECTIONS = "joins: ask askAll cancel change step set"
+            + " texts: type clearText history: undo keep restore"
+            + " what is told: join why queue work bestWay doneIn count spare";
     private static final Checks CHECKS = new Checks();
 
-    public static void main(String[] args) {
+    public static void main(String[] args) throws IOException {
         CHECKS.of("face");
         int modifiers = JoinGrants.class.getModifiers();
         CHECKS.due("public", Modifier.isPublic(modifiers) ? 1 : 0, 1);
@@ -26,6 +34,7 @@ public final class FaceTest {
         checkConstants();
         checkConstructors();
         checkClassesInside();
+        checkSections();
         CHECKS.end("FaceTest");
     }
 
@@ -76,5 +85,16 @@ public final class FaceTest {
                 CHECKS.due(method + " has a name of the face", borrowed ? 1 : 0, 0);
             }
         }
+    }
+
+    /** What the interface says ahead of the calls, and which calls stand behind it. */
+    private static void checkSections() throws IOException {
+        String code = Files.readString(Path.of("src/main/java/JoinGrants.java"));
+        Matcher parts = Pattern.compile("(?m)^ {4}(?:// ---- (.*)|public int (\\w+)\\(.*)$").matcher(code);
+        StringBuilder found = new StringBuilder();
+        while (parts.find()) {
+            found.append(' ').append(parts.group(1) == null ? parts.group(2) : parts.group(1) + ":");
+        }
+        CHECKS.due("sections" + found, found.toString().equals(" " + SECTIONS) ? 1 : 0, 1);
     }
 }

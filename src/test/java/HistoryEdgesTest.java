@@ -174,6 +174,8 @@ public final class HistoryEdgesTest {
         pool = ready();
         pool.set(2, 1);
         int[] asTold = Told.all(pool);
+        pool = ready();
+        pool.set(2, 1);
         due("join(0, 10)", pool.join(0, 10), 5);
         due("step(20)", pool.step(20), 2);
         due("undo()", pool.undo(), 3);

@@ -157,27 +157,40 @@ public final class HistoryTest {
         due("join(0, 9)", pool.join(0, 9), 1);
     }
 
+    /** A pool with a snapshot of one join at work, and acts after that. */
+    private static JoinGrants keptAndGoneOn() {
+        JoinGrants pool = kept();
+        pool.step(30);
+        pool.ask(0, 3, 3);
+        pool.set(0, 30);
+        return pool;
+    }
+
+    private static JoinGrants kept() {
+        JoinGrants pool = new JoinGrants();
+        pool.ask(1, 60, 80);
+        pool.step(2);
+        pool.keep();
+        return pool;
+    }
+
     private static void restoreGivesTheState() {
         CHECKS.of("promise 12");
         JoinGrants pool = new JoinGrants();
         due("restore()", pool.restore(), JoinGrants.NONE);
         due("count(16)", pool.count(16), 0);
-        pool.ask(1, 60, 80);
-        pool.step(2);
-        pool.keep();
-        int[] before = Told.all(pool);
-        pool.step(30);
-        pool.ask(0, 3, 3);
-        pool.set(0, 30);
+        pool = keptAndGoneOn();
         due("restore()", pool.restore(), 2);
-        compare("restore", before, pool);
         due("count(16)", pool.count(16), 4);
-        pool.cancel(0);
+        compare("restore", Told.all(kept()), pool);
+        pool = keptAndGoneOn();
+        pool.restore();
+        due("cancel(0)", pool.cancel(0), 98);
         due("restore(), the snapshot stays", pool.restore(), 2);
-        compare("restore again", before, pool);
         due("undo()", pool.undo(), 3);
         due("join(0, 3)", pool.join(0, 3), 3);
         pool.undo();
         due("undo() leaves the snapshot", pool.restore(), 2);
+        compare("restore once more", Told.all(kept()), pool);
     }
 }

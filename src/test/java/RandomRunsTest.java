@@ -1,15 +1,13 @@
-/**
- * Compares runs of calls, chosen by a fixed rule, with the model, and all of work and bestWay. The
- * document leaves free what is answered behind the 512th call; the class goes on as before, so
- * that all of a state can be compared after each call.
- */
+/** Compares runs of calls, chosen by a fixed rule, with the model, and all of work and bestWay. */
 public final class RandomRunsTest {
-    private static final int RUNS = 1500;
+    private static final int RUNS = 1900;
     private static final int CALLS = 120;
+    /** The most that one of them types and asks: a cleared text, 14 joins, a sign, askAll(). */
+    private static final int MOST_AT_ONCE = 1 + 14 * 9 + 1 + 1;
     private static final Checks CHECKS = new Checks();
 
     private long seed;
-    private final JoinGrants pool = new JoinGrants();
+    private final Replayed pool = new Replayed();
     private final Model model = new Model();
 
     private RandomRunsTest(int run) {
@@ -20,7 +18,7 @@ public final class RandomRunsTest {
     public static void main(String[] args) {
         for (int run = 0; run < RUNS; run++) {
             RandomRunsTest one = new RandomRunsTest(run);
-            for (int call = 0; call < CALLS; call++) {
+            for (int call = 0; call < CALLS && one.pool.hasRoom(MOST_AT_ONCE); call++) {
                 one.callOne(run % 3);
                 one.compareAll(call % 40 == 39);
             }
@@ -51,18 +49,18 @@ public final class RandomRunsTest {
                 break;
             case 3: {
                 int join = someJoin();
-                CHECKS.due("cancel(" + join + ")", pool.cancel(join), model.cancel(join));
+                CHECKS.due("cancel(" + join + ")", pool.change(one -> one.cancel(join)), model.cancel(join));
                 break;
             }
             case 4: {
                 int join = someJoin();
                 int way = any(5) - 1;
-                CHECKS.due("change(" + join + ", " + way + ")", pool.change(join, way), model.change(join, way));
+                CHECKS.due("change(" + join + ", " + way + ")", pool.change(one -> one.change(join, way)), model.change(join, way));
                 break;
             }
             case 5: case 6: {
                 int steps = any(9) == 0 ? any(1003) - 1 : any(12);
-                CHECKS.due("step(" + steps + ")", pool.step(steps), model.step(steps));
+                CHECKS.due("step(" + steps + ")", pool.change(one -> one.step(steps)), model.step(steps));
                 break;
             }
             case 7: case 8:
@@ -82,7 +80,7 @@ public final class RandomRunsTest {
         int left = table();
         int right = table();
         CHECKS.due("ask(" + way + ", " + left + ", " + right + ")",
-                pool.ask(way, left, right), model.ask(way, left, right));
+                pool.change(one -> one.ask(way, left, right)), model.ask(way, left, right));
     }
 
     private void setOne() {
@@ -95,12 +93,12 @@ public final class RandomRunsTest {
         } else {
             value = any(10) == 0 ? any(2) * 3 - 1 : any(2);
         }
-        CHECKS.due("set(" + which + ", " + value + ")", pool.set(which, value), model.set(which, value));
+        CHECKS.due("set(" + which + ", " + value + ")", pool.change(one -> one.set(which, value)), model.set(which, value));
     }
 
     private void textOne() {
         if (any(3) == 0) {
-            CHECKS.due("clearText()", pool.clearText(), model.clearText());
+            CHECKS.due("clearText()", pool.change(JoinGrants::clearText), model.clearText());
         }
         int joins = 1 + any(any(5) == 0 ? 14 : 4);
         for (int i = 0; i < joins; i++) {
@@ -110,7 +108,7 @@ public final class RandomRunsTest {
         if (any(4) == 0) {
             typeAll("" + anySign());
         }
-        CHECKS.due("askAll()", pool.askAll(), model.askAll());
+        CHECKS.due("askAll()", pool.change(JoinGrants::askAll), model.askAll());
     }
 
     private char anySign() {
@@ -120,36 +118,52 @@ public final class RandomRunsTest {
     private void typeAll(String text) {
         for (char right : text.toCharArray()) {
             char character = any(60) == 0 ? anySign() : right;
-            CHECKS.due("type(" + character + ")", pool.type(character), model.type(character));
+            CHECKS.due("type(" + character + ")", pool.change(one -> one.type(character)), model.type(character));
         }
     }
 
     private void historyOne(int mood) {
         int kind = any(mood == 0 ? 4 : 6);
         if (kind <= 1) {
-            CHECKS.due("undo()", pool.undo(), model.undo());
+            CHECKS.due("undo()", pool.change(JoinGrants::undo), model.undo());
         } else if (kind == 2) {
-            CHECKS.due("keep()", pool.keep(), model.keep());
+            CHECKS.due("keep()", pool.change(JoinGrants::keep), model.keep());
         } else if (kind == 3) {
-            CHECKS.due("restore()", pool.restore(), model.restore());
+            CHECKS.due("restore()", pool.change(JoinGrants::restore), model.restore());
         }
     }
 
     private void compareAll(boolean far) {
         for (int join = -1; join <= 16; join++) {
             for (int what = -1; what <= 12; what++) {
-                CHECKS.due("join(" + join + ", " + what + ")", pool.join(join, what), model.join(join, what));
+                compareJoin(join, what);
             }
-            CHECKS.due("why(" + join + ")", pool.why(join), model.why(join));
-            CHECKS.due("queue(" + join + ")", pool.queue(join), model.queue(join));
+            compareWaiting(join);
             if (far) {
-                CHECKS.due("doneIn(" + join + ")", pool.doneIn(join), model.doneIn(join));
+                compareDoneIn(join);
             }
         }
         for (int what = -1; what <= 18; what++) {
-            CHECKS.due("count(" + what + ")", pool.count(what), model.count(what));
+            compareCount(what);
         }
-        CHECKS.due("spare()", pool.spare(), model.spare());
+        CHECKS.due("spare()", pool.tell(JoinGrants::spare), model.spare());
+    }
+
+    private void compareJoin(int join, int what) {
+        CHECKS.due("join(" + join + ", " + what + ")", pool.tell(one -> one.join(join, what)), model.join(join, what));
+    }
+
+    private void compareWaiting(int number) {
+        CHECKS.due("why(" + number + ")", pool.tell(one -> one.why(number)), model.why(number));
+        CHECKS.due("queue(" + number + ")", pool.tell(one -> one.queue(number)), model.queue(number));
+    }
+
+    private void compareDoneIn(int join) {
+        CHECKS.due("doneIn(" + join + ")", pool.tell(one -> one.doneIn(join)), model.doneIn(join));
+    }
+
+    private void compareCount(int what) {
+        CHECKS.due("count(" + what + ")", pool.tell(one -> one.count(what)), model.count(what));
     }
 
     /** Compares all ways for tables and pages at and around their edges. */
@@ -159,8 +173,8 @@ public final class RandomRunsTest {
         int[] tables = {0, 1, 2, 3, 7, 10, 24, 25, 50, 99, 100, 149, 199, 200, 201};
         for (int left : tables) {
             for (int right : tables) {
-                JoinGrants pool = new JoinGrants();
                 for (int pages = 2; pages <= 501; pages += pages < 30 || pages > 495 ? 1 : 5) {
+                    JoinGrants pool = new JoinGrants();
                     for (int way = -1; way <= 3; way++) {
                         CHECKS.due("work(" + way + ", " + left + ", " + right + ", " + pages + ")",
                                 pool.work(way, left, right, pages), model.workTold(way, left, right, pages));
